@@ -187,6 +187,7 @@ public final class HammerEggs {
     int fewest = trial.play(beats);
     int advice = NONE;
     int length = now.jugglers[juggler].pattern.length;
+    // The numbers rise, so that the first one with the fewest is the least of several.
     for (int place = 0; place < length; place++) {
       for (int height = 0; height <= MOST_HEIGHT && fewest > 0; height++) {
         int fallen = fallenWith(juggler, place, height, beats);
@@ -384,6 +385,13 @@ public final class HammerEggs {
       return hands[hand] == NONE && height <= skill + 2;
     }
 
+    private void miss(Thing thing) {
+      if (thing.kind == HAMMER) {
+        bruises++;
+      }
+      thing.fall();
+    }
+
     private int thingsHeld() {
       int held = 0;
       for (int hand = 0; hand < HANDS; hand++) {
@@ -528,12 +536,7 @@ public final class HammerEggs {
 
     private int playBeat() {
       int hand = beat & 1;
-      int fallen = 0;
-      for (int i = 0; i < thingCount; i++) {
-        if (things[i].comesDownIn(beat) && !isCaught(i, hand)) {
-          fallen++;
-        }
-      }
+      int fallen = comeDown(hand);
       for (int i = 0; i < jugglerCount; i++) {
         throwFrom(jugglers[i], hand);
       }
@@ -541,22 +544,22 @@ public final class HammerEggs {
       return fallen;
     }
 
-    private boolean isCaught(int number, int hand) {
-      Thing thing = things[number];
-      int to = thing.juggler;
-      if (!hasJuggler(to)) {
-        return false;
+    private int comeDown(int hand) {
+      int fallen = 0;
+      for (int i = 0; i < thingCount; i++) {
+        Thing thing = things[i];
+        int to = thing.juggler;
+        if (thing.comesDownIn(beat) && hasJuggler(to)) {
+          if (jugglers[to].canCatch(thing.height, hand)) {
+            putIntoHand(i, to, hand);
+            jugglers[to].caught++;
+          } else {
+            jugglers[to].miss(thing);
+            fallen++;
+          }
+        }
       }
-      if (jugglers[to].canCatch(thing.height, hand)) {
-        putIntoHand(number, to, hand);
-        jugglers[to].caught++;
-        return true;
-      }
-      if (thing.kind == HAMMER) {
-        jugglers[to].bruises++;
-      }
-      thing.fall();
-      return false;
+      return fallen;
     }
 
     private void throwFrom(Juggler thrower, int hand) {

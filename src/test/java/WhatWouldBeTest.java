@@ -174,6 +174,21 @@ public final class WhatWouldBeTest {
     Check.due("too soon to fall", x.advise(0, 2), -1);
   }
 
+  // A hammer must leave the hand for a ball that comes in the beat 2, and all but a 9 falls by then.
+  private static void promise17HighestHeight() {
+    HammerEggs x = new HammerEggs();
+    x.come(1);
+    x.come(9);
+    x.setPattern(1, 1, 2);
+    x.pass(1, 0, 0);
+    x.make(1);
+    x.make(0);
+    x.give(0, 0, 0);
+    x.give(1, 1, 0);
+    Check.due("a 9 falls later", x.advise(0, 8), 9);
+    Check.due("no more than 9", x.advise(0, 9), -1);
+  }
+
   /** How many fall if the throw at a place of a juggler gets a height, behind 5 beats. */
   private static int fallenWith(int heights, int juggler, int place, int height, int beats) {
     HammerEggs x = duo(heights);
@@ -292,6 +307,47 @@ public final class WhatWouldBeTest {
     }
   }
 
+  /** Four jugglers with patterns of eight throws, and twelve things, of which eight are in hands. */
+  private static HammerEggs full() {
+    HammerEggs x = new HammerEggs();
+    for (int i = 0; i < 4; i++) {
+      x.come(9 - 2 * i);
+      x.setPattern(i, 8, 31415926 + 1111111 * i);
+    }
+    for (int i = 0; i < 4; i++) {
+      x.pass(i, 7, (i + 1) % 4);
+    }
+    for (int i = 0; i < 12; i++) {
+      x.make(i % 3);
+    }
+    for (int i = 0; i < 8; i++) {
+      x.give(i, i / 2, i % 2);
+    }
+    return x;
+  }
+
+  private static void allOfAFullRing() {
+    for (int beats = 1; beats <= 60; beats++) {
+      HammerEggs x = full();
+      HammerEggs twin = full();
+      int foreseen = x.foresee(beats, 1);
+      int flying = x.foresee(beats, 0);
+      int bruises = x.foresee(beats, 2);
+      int first = x.falls();
+      Check.holds("an advice of the document's", x.advise(beats % 4, beats) <= 79);
+      Check.due("nothing is changed", x.digest(), twin.digest());
+      Check.due("the full ring foreseen", foreseen, x.go(beats));
+      Check.due("falls() of a full ring", first <= beats ? 1 : 0, foreseen > 0 ? 1 : 0);
+      Check.due("flying", flying, x.count(4));
+      int sum = 0;
+      for (int i = 0; i < 4; i++) {
+        sum += x.juggler(i, 1);
+      }
+      Check.due("bruises", bruises, sum);
+      Check.due("digest of a full ring", x.digest(), digestOf(x));
+    }
+  }
+
   public static void main(String[] args) {
     promise15Falls();
     promise15AtMost200();
@@ -300,10 +356,12 @@ public final class WhatWouldBeTest {
     promise16AsGoDoes();
     promise16Refusals();
     promise17Advise();
+    promise17HighestHeight();
     promise17AsTrialsTell();
     promise17Refusals();
     promise18Mean();
     promise19Digest();
+    allOfAFullRing();
     Check.end();
   }
 }
