@@ -18,33 +18,6 @@ public final class ModelTest {
     return below(25) == 0 ? ODD[below(ODD.length)] : below(bound);
   }
 
-  private static String answer(HammerEggs x, String call, int a, int b, int c) {
-    try {
-      switch (call) {
-        case "come": return "" + x.come(a);
-        case "setPattern": return "" + x.setPattern(a, b, c);
-        case "pass": return "" + x.pass(a, b, c);
-        case "written": return "" + x.written(a, b, c);
-        case "make": return "" + x.make(a);
-        case "give": return "" + x.give(a, b, c);
-        case "thing": return "" + x.thing(a, b);
-        case "juggler": return "" + x.juggler(a, b);
-        case "lasts": return "" + x.lasts(a);
-        case "asks": return "" + x.asks(a);
-        case "shortest": return "" + x.shortest(a);
-        case "go": return "" + x.go(a);
-        case "count": return "" + x.count(a);
-        case "falls": return "" + x.falls();
-        case "foresee": return "" + x.foresee(a, b);
-        case "advise": return "" + x.advise(a, b);
-        case "mean": return "" + x.mean();
-        default: return "" + x.digest();
-      }
-    } catch (RuntimeException e) {
-      return e.getClass().getSimpleName();
-    }
-  }
-
   private static int digits(int length) {
     int digits = 0;
     for (int i = 0; i < length && i < 9; i++) {
@@ -78,11 +51,10 @@ public final class ModelTest {
     for (int i = 0; i < calls; i++) {
       String call = i < 2 ? "come" : CALLS[below(CALLS.length)];
       int[] a = arguments(call);
-      String told = "run " + number + ", call " + i + ": " + call + "(" + a[0] + ", " + a[1] + ", "
-          + a[2] + ")";
-      Check.due(told, answer(x, call, a[0], a[1], a[2]), model.answer(call, a[0], a[1], a[2]));
-      Check.due(told + ", then digest", answer(x, "digest", 0, 0, 0),
-          model.answer("digest", 0, 0, 0));
+      String told = call + " " + a[0] + " " + a[1] + " " + a[2];
+      String where = "run " + number + ", call " + i + ": " + told;
+      Check.due(where, Calls.answer(x, told), Calls.answer(model, told));
+      Check.due(where + ", then digest", Calls.answer(x, "digest"), Calls.answer(model, "digest"));
     }
   }
 
@@ -90,8 +62,9 @@ public final class ModelTest {
     for (int number = 0; number < 200; number++) {
       run(number, 150);
     }
-    for (int number = 200; number < 205; number++) {
-      run(number, 512);
+    // A digest follows each call: 512 calls in all, as many as the document promises.
+    for (int number = 200; number < 210; number++) {
+      run(number, 256);
     }
     Check.end();
   }

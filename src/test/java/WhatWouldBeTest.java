@@ -33,25 +33,6 @@ public final class WhatWouldBeTest {
     return x;
   }
 
-  /** Two balls among four jugglers, of which one first falls in the 276th beat. */
-  private static HammerEggs lateFall() {
-    HammerEggs x = new HammerEggs();
-    int[][] patterns = {{5, 50030}, {7, 9001700}, {8, 40000}, {6, 3045}};
-    for (int i = 0; i < 4; i++) {
-      x.come(9);
-      x.setPattern(i, patterns[i][0], patterns[i][1]);
-    }
-    int[][] passes = {{0, 3, 1}, {0, 4, 2}, {1, 4, 3}, {1, 6, 3}, {2, 2, 0}, {3, 2, 0}};
-    for (int[] p : passes) {
-      x.pass(p[0], p[1], p[2]);
-    }
-    for (int i = 0; i < 2; i++) {
-      x.make(0);
-      x.give(i, i, 0);
-    }
-    return x;
-  }
-
   private static void promise15Falls() {
     Check.due("a ball of 4, too high", solo(1, 1, 4, 0).falls(), 5);
     Check.due("an egg of 9", solo(1, 1, 9, 2).falls(), 11);
@@ -68,7 +49,7 @@ public final class WhatWouldBeTest {
   }
 
   private static void promise15AtMost200() {
-    HammerEggs x = lateFall();
+    HammerEggs x = Rings.lateFall();
     Check.due("276 beats ahead", x.falls(), -1);
     x.go(75);
     Check.due("201 beats ahead", x.falls(), -1);
@@ -174,7 +155,7 @@ public final class WhatWouldBeTest {
     Check.due("too soon to fall", x.advise(0, 2), -1);
   }
 
-  // A hammer must leave the hand for a ball that comes in the beat 2, and all but a 9 falls by then.
+  // A hammer must leave the hand for a ball that comes in the beat 2; all but a 9 falls by then.
   private static void promise17HighestHeight() {
     HammerEggs x = new HammerEggs();
     x.come(1);
@@ -299,37 +280,18 @@ public final class WhatWouldBeTest {
     x.make(2);
     Check.due("digest with a thing", x.digest(), digestOf(x));
     for (int heights = 0; heights <= 9999; heights += 101) {
-      HammerEggs two = duo(heights);
       for (int i = 0; i < 8; i++) {
-        two.go(1 + i);
+        HammerEggs two = duo(heights);
+        two.go(1 + 5 * i);
         Check.due("digest with " + heights, two.digest(), digestOf(two));
       }
     }
   }
 
-  /** Four jugglers with patterns of eight throws, and twelve things, of which eight are in hands. */
-  private static HammerEggs full() {
-    HammerEggs x = new HammerEggs();
-    for (int i = 0; i < 4; i++) {
-      x.come(9 - 2 * i);
-      x.setPattern(i, 8, 31415926 + 1111111 * i);
-    }
-    for (int i = 0; i < 4; i++) {
-      x.pass(i, 7, (i + 1) % 4);
-    }
-    for (int i = 0; i < 12; i++) {
-      x.make(i % 3);
-    }
-    for (int i = 0; i < 8; i++) {
-      x.give(i, i / 2, i % 2);
-    }
-    return x;
-  }
-
   private static void allOfAFullRing() {
     for (int beats = 1; beats <= 60; beats++) {
-      HammerEggs x = full();
-      HammerEggs twin = full();
+      HammerEggs x = Rings.full();
+      HammerEggs twin = Rings.full();
       int foreseen = x.foresee(beats, 1);
       int flying = x.foresee(beats, 0);
       int bruises = x.foresee(beats, 2);
